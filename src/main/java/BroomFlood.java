@@ -384,7 +384,7 @@ public final class BroomFlood {
         int bits = isAsMeasured() ? SO_WITHOUT : 0;
         for (int b = 0; b < BROOMS; b++) {
             ahead.copyFrom(told.start);
-            if (ahead.isThere(b) && ahead.canSplit(b)) {
+            if (ahead.canSplit(b)) {
                 ahead.split(b);
                 bits |= isAsMeasured() ? 1 << b : 0;
             }
@@ -441,16 +441,18 @@ public final class BroomFlood {
     // ---- kinds, images
 
     public int rate(int kind, int b) {
-        if (kind < 0 || kind > 5 || b < 0 || b >= BROOMS) {
+        if (b < 0 || b >= BROOMS) {
             return NO;
         }
+        int size = present.size[b];
         switch (kind) {
-            case 1: return kinds.asWet(present, b);
-            case 2: return kinds.asHalf(present, b);
-            case 3: return kinds.asBored(present, b);
-            case 4: return kinds.asBurning(present, b);
-            case 5: return kinds.asTeaching(present, b, told.heightOf(present.water));
-            default: return kinds.asBroom(present, b);
+            case 0: return kinds.asBroom(size);
+            case 1: return kinds.asWet(size, present.pace[b]);
+            case 2: return kinds.asHalf(size, present.due[b]);
+            case 3: return kinds.asBored(size, present.pace[b]);
+            case 4: return kinds.asBurning(size, present.due[b], b);
+            case 5: return kinds.asTeaching(size, told.heightOf(present.water));
+            default: return NO;
         }
     }
 
@@ -964,36 +966,34 @@ public final class BroomFlood {
     private static final class Kinds {
         long asked;
 
-        int asBroom(Moment moment, int b) {
+        int asBroom(int size) {
             asked += 1;
-            return b < 0 || b >= BROOMS ? 0 : moment.size[b];
+            return size;
         }
 
-        int asWet(Moment moment, int b) {
+        int asWet(int size, int pace) {
             asked += 10;
-            int up = asBroom(moment, b);
-            return b < 0 || b >= BROOMS ? up : up + moment.pace[b];
+            return asBroom(size) + pace;
         }
 
-        int asHalf(Moment moment, int b) {
+        int asHalf(int size, int due) {
             asked += 100;
-            int up = asBroom(moment, b);
-            return b < 0 || b >= BROOMS ? up : up - moment.due[b];
+            return asBroom(size) - due;
         }
 
-        int asBored(Moment moment, int b) {
+        int asBored(int size, int pace) {
             asked += 1000;
-            return 2 * asWet(moment, b);
+            return 2 * asWet(size, pace);
         }
 
-        int asBurning(Moment moment, int b) {
+        int asBurning(int size, int due, int b) {
             asked += 10000;
-            return asHalf(moment, b) + b;
+            return asHalf(size, due) + b;
         }
 
-        int asTeaching(Moment moment, int b, int height) {
+        int asTeaching(int size, int height) {
             asked += 100000;
-            return asBroom(moment, b) + height;
+            return asBroom(size) + height;
         }
     }
 }

@@ -152,7 +152,9 @@ public final class PromisesTest {
             due(4, "now(" + i + ") anew", x.now(i), 0);
         }
         due(4, "broom(0, 0) anew", x.broom(0, 0), 0);
-        due(4, "broom(1, 5) anew", x.broom(1, 5), 0);
+        for (int what = 0; what < 7; what++) {
+            due(4, "broom(1, " + what + ") anew", x.broom(1, what), 0);
+        }
         due(4, "back(0) anew", x.back(0), BroomFlood.STATE);
         due(4, "back(1) anew", x.back(1), BroomFlood.STATE);
         due(4, "undo() anew", x.undo(), BroomFlood.STATE);
@@ -231,6 +233,16 @@ public final class PromisesTest {
         due(7, "never more than 99999, then 64 less", full.stands(200), 99935);
     }
 
+    /** The document frees what comes behind 512 calls; this class counts to 9999 all the same. */
+    private static void p7LastMinute() {
+        BroomFlood x = of("w9;a1;b1 40 40;");
+        minutes(x, 9998);
+        due(7, "minute() to 9999", x.minute(), 9 + 249);
+        due(7, "minute() at 9999", x.minute(), BroomFlood.STATE);
+        due(7, "nothing changes", x.now(0), 9999);
+        due(7, "stands() goes past it", x.stands(1), 9 + 250);
+    }
+
     private static void p8Splits() {
         BroomFlood x = of("b9 30 2;b5 1 1;b1 7 1;");
         x.minute();
@@ -256,6 +268,8 @@ public final class PromisesTest {
         due(8, "broom(1, 3)", x.broom(1, 3), 0);
         due(8, "broom(1, 4)", x.broom(1, 4), 0);
         due(8, "broom(1, 5)", x.broom(1, 5), 0);
+        x.halts(0);
+        due(8, "0 is a number, too", x.splits(1), 0);
         due(8, "splits(7)", x.splits(7), BroomFlood.BAD);
         due(8, "splits(8)", x.splits(8), BroomFlood.BAD);
         due(8, "splits(-1)", x.splits(-1), BroomFlood.BAD);
@@ -415,6 +429,13 @@ public final class PromisesTest {
         due(17, "NOW counts", high.teach(5), BroomFlood.NONE);
         BroomFlood wet = of("a1;m9;b1 1 1;b20 1 2;");
         due(17, "not the least bits, but as few", wet.teach(2), 2);
+        BroomFlood eight = of("a1;m0;" + brooms(8, "b5 1 1;"));
+        due(17, "5 in, then 5 out, in turn", eight.teach(60), 170);
+        StringBuilder turns = new StringBuilder("a1;m0;");
+        for (int i = 1; i <= 8; i++) {
+            turns.append("b5 8 ").append(i).append(';');
+        }
+        due(17, "one each minute, all eight", of(turns.toString()).teach(60), 255);
     }
 
     private static void p18Burn() {
@@ -435,6 +456,7 @@ public final class PromisesTest {
         out.teaches(0);
         due(18, "out blocks the stair", out.burn(60), 0);
         BroomFlood high = of("w50;a1;d20;b6 1 1;");
+        due(18, "all eight", of("a1;m0;" + brooms(8, "b5 1 1;")).burn(60), 255);
         due(18, "NOW counts", high.burn(5), BroomFlood.NONE);
         BroomFlood taught = of("a1;m5;s1;b1 1 2;b6 1 1;");
         taught.teaches(0);
@@ -608,6 +630,8 @@ public final class PromisesTest {
         last.measured(39, 0);
         last.measured(40, 2);
         due(27, "to MINUTE 40", last.splitFirst(), 257);
+        last.measured(40, 3);
+        due(27, "MINUTE 40 counts", last.splitFirst(), 0);
         BroomFlood both = of("b2 1 1;");
         both.measured(1, 2);
         both.measured(1, 3);
@@ -657,6 +681,9 @@ public final class PromisesTest {
             sum += added[kind];
             due(33, "trace() behind " + kind, x.trace(), sum);
         }
+        due(29, "rate(1, 0)", x.rate(1, 0), 12);
+        due(29, "rate(2, 0)", x.rate(2, 0), 3);
+        sum += 11 + 101;
         x.halts(1);
         due(29, "there or not", x.rate(1, 1), 11);
         due(29, "never there", x.rate(3, 7), 0);
@@ -749,6 +776,7 @@ public final class PromisesTest {
         p5Broom();
         p6Now();
         p7Minute();
+        p7LastMinute();
         p8Splits();
         p9Teaches();
         p10Bores();
