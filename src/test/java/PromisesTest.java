@@ -118,10 +118,10 @@ public final class PromisesTest {
     private static void p4Texts() {
         BroomFlood x = new BroomFlood();
         String[] texts = {
-            "", "    ", "w0;", "w99;", "a1;", "a20;", "d0;", "d20;", "m0;", "m99;", "s1;", "s8;",
+            "", "    ", " ".repeat(200), "w0;", "w99;", "a1;", "a20;", "d0;", "d20;", "m0;", "m99;", "s1;", "s8;",
             "b1 1 1;", "b64 40 40;", " w 5 ; b 1  2   3 ;  ", "s2;m1;d3;a4;w5;", brooms(8, "b1 1 1;"), "b1 1 1;w3;b2 2 2;"
         };
-        int[] items = {0, 0, 1, 1, 1, 1, 1, 1, 1, 1, 1, 1, 1, 1, 2, 5, 8, 3};
+        int[] items = {0, 0, 0, 1, 1, 1, 1, 1, 1, 1, 1, 1, 1, 1, 1, 2, 5, 8, 3};
         for (int i = 0; i < texts.length; i++) {
             due(4, "cellar() of <" + texts[i] + ">", tell(x, texts[i]), items[i]);
             due(4, "count(6)", x.count(6), 0);
