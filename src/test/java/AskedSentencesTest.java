@@ -72,6 +72,7 @@ public final class AskedSentencesTest {
         for (int n = 0; n <= 200; n++) {
             s.due("stands(" + n + ")", x.stands(n), (3 + n) / 2);
         }
+        s.by("`int stands(int n)`: STANDS. BAD.");
         s.due("stands(-1)", x.stands(-1), BAD);
         s.due("stands(201)", x.stands(201), BAD);
         s.by("ABOVE: in how many MINUTES (0 .. 200) it STANDS above MARK first; NONE.");
@@ -103,9 +104,10 @@ public final class AskedSentencesTest {
         s.due("then 50, of which 20 run off", most.most(2), 30);
         s.due("to the last", s.of("a1;b7 40 40;").most(200), 35);
         s.due("not the last", s.of("a1;b7 40 40;").most(199), 28);
+        s.due("PEAK does not count", peaked().most(200), 0);
+        s.by("`int most(int n)`: MOST. BAD.");
         s.due("most(-1)", most.most(-1), BAD);
         s.due("most(201)", most.most(201), BAD);
-        s.due("PEAK does not count", peaked().most(200), 0);
     }
 
     private static BroomFlood peaked() {
@@ -133,9 +135,13 @@ public final class AskedSentencesTest {
         s.due("drain(1)", soon.drain(1), 1);
         int[] wrong = {0, -1, 61, Integer.MIN_VALUE, Integer.MAX_VALUE};
         for (int n : wrong) {
+            s.by("TEACH, as bits; NONE. BAD.");
             s.due("teach(" + n + ")", x.teach(n), BAD);
+            s.by("BURN, as bits; NONE. BAD.");
             s.due("burn(" + n + ")", x.burn(n), BAD);
+            s.by("WIDEST STAIR; NONE. BAD.");
             s.due("stair(" + n + ")", x.stair(n), BAD);
+            s.by("LEAST DRAIN; NONE. BAD.");
             s.due("drain(" + n + ")", x.drain(n), BAD);
         }
         s.by("so that it never STANDS above MARK in these (NOW counts)");
@@ -475,15 +481,16 @@ public final class AskedSentencesTest {
             }
             s.due("price(" + c + ", 200)", x.price(c, 200), c * 200);
         }
-        int[][] wrong = {{0, 5}, {10, 5}, {1, -1}, {1, 201}};
-        for (int[] w : wrong) {
-            s.due("price(" + w[0] + ", " + w[1] + ")", x.price(w[0], w[1]), BAD);
-        }
         s.due("as much as can be", s.of("d20;b64 1 1;").price(9, 200), 36000);
         s.due("no DRAIN", s.of("w99;b64 1 1;").price(9, 200), 0);
         BroomFlood out = s.of("w9;d2;b5 40 1;");
         out.teaches(0);
         s.due("not what is carried out", out.price(1, 200), 4);
+        s.by("PRICE. BAD.");
+        int[][] wrong = {{0, 5}, {10, 5}, {1, -1}, {1, 201}};
+        for (int[] w : wrong) {
+            s.due("price(" + w[0] + ", " + w[1] + ")", x.price(w[0], w[1]), BAD);
+        }
     }
 
     public static void main(String[] args) throws Exception {

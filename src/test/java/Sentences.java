@@ -1,6 +1,8 @@
 import java.io.IOException;
 import java.nio.file.Files;
 import java.nio.file.Path;
+import java.util.HashSet;
+import java.util.Set;
 
 /**
  * What the tests of the document's sentences share: the sentence at hand, which must stand in the
@@ -11,7 +13,7 @@ final class Sentences {
 
     private final String document;
     private String sentence = "";
-    private int sentences = 0;
+    private final Set<String> sentences = new HashSet<>();
     private int answers = 0;
     private int wrong = 0;
 
@@ -26,7 +28,7 @@ final class Sentences {
     /** What follows is due by these words. */
     void by(String words) {
         sentence = words;
-        sentences++;
+        sentences.add(words);
         if (!document.contains(oneLine(words))) {
             fail("the document does not say so");
         }
@@ -48,7 +50,7 @@ final class Sentences {
 
     /** Ends the test's run, with 1 if anything was wrong. */
     void end() {
-        System.out.println(sentences + " sentences, " + answers + " answers, " + wrong + " wrong");
+        System.out.println(sentences.size() + " sentences, " + answers + " answers, " + wrong + " wrong");
         if (wrong != 0) {
             System.exit(1);
         }

@@ -319,6 +319,12 @@ public final class TextSentencesTest {
         s.now("anew", x, 0, 0, 0, 0, 1, 0);
         s.brooms("anew", x, 0, 1, 2, 3, 0, 0, 0, 1);
         s.brooms("anew", x, 1, 0, 0, 0, 0, 0, 0, 0);
+        s.due("a fault behind eight BROOMS", Sentences.tell(x, "b9 9 9;".repeat(8) + "x"), -10 - 56);
+        x.clear();
+        s.due("cellar() of none", x.cellar(), 0);
+        for (int b = 0; b < 8; b++) {
+            s.brooms("neither of the text before nor of the faulty one", x, b, 0, 0, 0, 0, 0, 0, 0);
+        }
 
         s.by("-10 less FAULT: nothing changes (THE TEXT stays, too).");
         String[] wrong = {"x", "w9;a1;d1;m1;s1;b5 5 5;x", "w9;w", "b1 1 1;b1 1", "w9;a9;b1 1 1;b1 1 0;"};
