@@ -572,7 +572,7 @@ public final class BroomFlood {
             if (b < 0 || b >= BROOMS) {
                 return 0;
             }
-            return (bored >> b & 1) == 1 ? size[b] / 2 : size[b];
+            return bitOf(bored, b) == 1 ? size[b] / 2 : size[b];
         }
 
         void pass(int stairWidth, int drainCups) {

@@ -412,6 +412,17 @@ public final class AskedSentencesTest {
                 }
             }
         }
+        s.by("it stumbles, by p of 10, each for itself");
+        s.due("never", x.odds(0, 0, 9, 9, 0), 1);
+        s.due("always", x.odds(0, 10, 9, 1, 0), 0);
+        s.due("always, none at least", x.odds(0, 10, 9, 0, 0), 1);
+        s.due("7 of 10, not 3", x.odds(0, 3, 1, 1, 0), 7);
+        s.due("49 of 100", x.odds(0, 3, 2, 2, 0), 49);
+        s.due("49 of 100", x.odds(0, 3, 2, 2, 1), 100);
+        s.by("that it did not, k times at least: a fraction.");
+        s.due("once or twice of two: 49 and 42", x.odds(0, 3, 2, 1, 0), 91);
+        s.due("more often than it comes", x.odds(0, 3, 2, 3, 0), 0);
+        s.due("more often than it comes", x.odds(0, 3, 2, 3, 1), 1);
         s.by("(9 times at most; NO for more)");
         for (int n = 10; n <= 40; n++) {
             s.due("upper, n " + n, x.odds(0, 5, n, 0, 0), BroomFlood.NO);
@@ -456,6 +467,17 @@ public final class AskedSentencesTest {
         s.due("not by one who will hear it", s.of("b1 40 5;b1 3 2;b1 40 2;").heard(0), 122);
         s.due("as wide as three", s.of("s3;b1 2 1;b1 2 1;b1 3 1;").heard(0), 1);
         s.due("the third never comes with another", s.of("s2;b1 2 1;b1 2 1;b1 3 1;").heard(0), NONE);
+        s.by("HEARD by a word that goes from BROOM to BROOM: one that is there hears it NOW");
+        // The first and the second come at 2, the second and the third at 5, the third and the fourth at 9.
+        BroomFlood chain = s.of("b1 40 2;b1 3 2;b1 4 5;b1 40 9;");
+        // The first comes at 42, 82 alone, and at 122 with the second, who has it of the third by then.
+        int[] all = {9, 9, 122, 122};
+        for (int b = 0; b < all.length; b++) {
+            s.due("of " + b, chain.heard(b), all[b]);
+        }
+        chain.teaches(2);
+        chain.bores(1);
+        s.due("whatever they carry", chain.heard(0), 9);
         s.by("in how many MINUTES (0 .. 200) all that are there have; NONE.");
         s.due("in 200", s.of("b1 11 2;b1 19 10;").heard(0), 200);
         BroomFlood late = s.of("b1 11 3;b1 19 11;");

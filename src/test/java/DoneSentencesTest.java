@@ -344,6 +344,58 @@ public final class DoneSentencesTest {
         s.brooms("all else stays", y, 1, 2, 9, 1, 0, 0, 0, 0);
     }
 
+    /** The first of three, WET if not DRY, that was made to be there no more in one of three ways. */
+    private static BroomFlood without(int way) {
+        BroomFlood x = s.of("a1;s1;" + (way == 0 ? "b1 2 2;" : "b1 2 1;") + "b3 2 2;b4 40 2;");
+        x.minute();
+        int answer = way == 0 ? x.burns(0) : way == 1 ? x.splits(0) : x.halts(0);
+        s.due("way " + way, answer, way == 1 ? BroomFlood.NONE : 2);
+        return x;
+    }
+
+    private static void thereOrNot() {
+        s.by("is there, or not (BURNT, split to nothing, HALTED)");
+        for (int way = 0; way < 3; way++) {
+            BroomFlood x = without(way);
+            int wet = way == 0 ? 0 : 1;
+            s.brooms("what else is told of it stays", x, 0, 1, 2, way == 0 ? 1 : 2, 0, 0, wet, 0);
+            s.due("now(4)", x.now(4), 6);
+            s.due("it does not flow: 3 by 2, 4 by 40", x.flow(0), 8);
+            s.due("it does not flow: 3 by 2, 4 by 40", x.flow(1), 5);
+            s.due("the others have the STAIR", x.stands(1) - x.stands(0), 3);
+            s.due("it need not hear: the others come in 1, then one waits, and comes alone", x.heard(1), BroomFlood.NONE);
+            int[] refused = {x.splits(0), x.teaches(0), x.bores(0), x.burns(0), x.halts(0), x.heard(0), x.splitOn(0, 0, 0),
+                x.odds(0, 0, 0, 0, 0)};
+            for (int answer : refused) {
+                s.due("of one that is not there", answer, BroomFlood.BAD);
+            }
+            Sentences.minutes(x, 3);
+            s.brooms("it never comes again", x, 0, 1, 2, way == 0 ? 1 : 2, 0, 0, wet, 0);
+            s.due("3, 4, 3", x.now(1), wet + 10);
+        }
+        s.by("BURNT: a DRY one is there no more.");
+        s.brooms("DRY yet", without(0), 0, 1, 2, 1, 0, 0, 0, 0);
+    }
+
+    private static void others() {
+        s.by("those that are DUE in 0 or less come down the STAIR, by numbers, as many as can (the others wait: they are DUE "
+            + "in 0 or less then, and come in the next MINUTE, if they can by numbers)");
+        // The first has one place each MINUTE, the second and the third take turns on the other, the fourth never comes.
+        BroomFlood x = s.of("a1;s2;b1 1 1;b1 2 1;b1 2 1;b1 9 1;");
+        int[] came = {3, 5, 3, 5, 3, 5};
+        int before = 0;
+        for (int m = 0; m < came.length; m++) {
+            s.due("two come in " + (m + 1), x.minute() - before, 2);
+            before += 2;
+            for (int b = 0; b < 3; b++) {
+                boolean comes = (came[m] >> b & 1) == 1;
+                s.due("DUE of " + b + " behind " + (m + 1), x.broom(b, 2), comes ? (b == 0 ? 1 : 2) : (m == 0 ? 0 : 1));
+            }
+            s.due("the last one waits " + (m + 1), x.broom(3, 2), -m);
+            s.due("it is DRY", x.broom(3, 5), 0);
+        }
+    }
+
     private static BroomFlood busy() {
         BroomFlood x = s.of("w7;a2;d1;s2;b9 2 1;b8 3 2;b1 1 9;b6 4 1;");
         x.measured(2, 3);
@@ -467,6 +519,8 @@ public final class DoneSentencesTest {
         sizeOne();
         boredForGood();
         burntAndHalted();
+        thereOrNot();
+        others();
         undone();
         notUndone();
         asked();

@@ -43,6 +43,52 @@ public final class KeptSentencesTest {
         rates("undone", none, 1, 0, 0, 0, 0, 1, 2);
     }
 
+    private static void overOneAnother() {
+        s.by("KINDS of BROOMS are over one another: 0 BROOM; 1 WET, 2 HALF, 5 TEACHING (each under BROOM); "
+            + "3 BORED (under WET); 4 BURNING (under HALF).");
+        BroomFlood x = s.of("w50;a3;d2;s1;b7 5 4;b9 2 1;b1 40 40;b30 3 2;b2 2 2;");
+        for (int m = 0; m < 6; m++) {
+            for (int b = 0; b < 8; b++) {
+                int broom = x.broom(b, 0);
+                s.due("BROOM", x.rate(0, b), broom);
+                s.due("WET under BROOM", x.rate(1, b), broom + x.broom(b, 1));
+                s.due("HALF under BROOM", x.rate(2, b), broom - x.broom(b, 2));
+                s.due("BORED under WET", x.rate(3, b), 2 * x.rate(1, b));
+                s.due("BURNING under HALF", x.rate(4, b), x.rate(2, b) + b);
+                s.due("TEACHING under BROOM", x.rate(5, b), broom + x.now(2));
+            }
+            x.minute();
+        }
+        s.by("\"up\" is what the KIND above does");
+        int[] above = {-1, 0, 0, 1, 2, 0};
+        int[] own = {1, 10, 100, 1000, 10000, 100000};
+        for (int kind = 0; kind < above.length; kind++) {
+            long sum = 0;
+            for (int up = kind; up >= 0; up = above[up]) {
+                sum += own[up];
+            }
+            long before = x.trace();
+            x.rate(kind, 0);
+            s.due("bodies asked by kind " + kind, x.trace() - before, sum);
+        }
+    }
+
+    private static void lastCall() {
+        s.by("An object is used for at most 512 calls after it has been made");
+        BroomFlood x = new BroomFlood();
+        Sentences.tell(x, "w1;a1;b3 2 1;");
+        // 13 letters and cellar() are 14 calls, so there are 498 more.
+        for (int call = 15; call <= 511; call++) {
+            s.due("call " + call, x.minute(), 1 + 3 * ((call - 13) / 2));
+        }
+        s.due("call 512", x.now(0), 497);
+        // Each that is left brings a cup at 40, so that all sets are tried for so long; 79 calls went ahead.
+        BroomFlood dear = s.of("a1;m0;" + "b1 40 40;".repeat(8));
+        for (int call = 80; call <= 512; call++) {
+            s.due("a dear call", dear.burn(60), 255);
+        }
+    }
+
     private static void trace() {
         s.by("numbers in brackets are added to THE TRACE, 0 at first, as often as rate() asks that body: each once");
         BroomFlood x = s.of("b7 5 4;");
@@ -193,6 +239,8 @@ public final class KeptSentencesTest {
     public static void main(String[] args) throws Exception {
         s = new Sentences();
         kinds();
+        overOneAnother();
+        lastCall();
         trace();
         images();
         readAnew();

@@ -5,6 +5,8 @@ import java.lang.reflect.Method;
 import java.lang.reflect.Modifier;
 import java.nio.file.Files;
 import java.nio.file.Path;
+import java.util.HashMap;
+import java.util.Map;
 import java.util.Set;
 import java.util.TreeSet;
 import java.util.regex.Matcher;
@@ -18,6 +20,8 @@ public final class LanguageTest {
         + "flow(int):long splitOn(int,int,int):int price(int,int):int heard(int):int measured(int,int):int "
         + "forget():int splitFirst():int odds(int,int,int,int,int):int rate(int,int):int keep(int):int back(int):int "
         + "count(int):int trace():long";
+
+    private static final Set<String> LIBRARY = Set.of("Math.min", "Math.max", "Math.abs", "Math.floorMod", "Integer.bitCount");
 
     private static int wrong = 0;
 
@@ -87,18 +91,88 @@ public final class LanguageTest {
             String pattern = Character.isLetter(w.charAt(0)) ? "\\b" + w + "\\b" : Pattern.quote(w);
             hold(!Pattern.compile(pattern).matcher(bare).find(), "the source has " + w);
         }
-        Matcher called = Pattern.compile("\\b(Integer|Long|Math|String|Arrays)\\.(\\w+)").matcher(bare);
+        Matcher called = Pattern.compile("\\b(Integer|Long|Math|String|StringBuilder|Arrays|List|ArrayList)\\.(\\w+)").matcher(bare);
         while (called.find()) {
-            hold(!called.group(2).endsWith("Exact"), "the source calls " + called.group());
+            hold(LIBRARY.contains(called.group()), "the source calls " + called.group());
         }
-        String[] lines = bare.split("\n");
-        int begun = 0;
+        methods(bare.split("\n"));
+    }
+
+    /** Methods are told by how far they stand in: 4 blanks in the class itself, 8 in those inside it. */
+    private static void methods(String[] lines) {
+        Map<String, String> bodies = new HashMap<>();
+        String inside = "BroomFlood";
         for (int i = 0; i < lines.length; i++) {
-            if (lines[i].matches(" +(public |private |static )*[\\w\\[\\]]+ ?\\w*\\([^;]*\\{")) {
-                begun = i;
+            Matcher type = Pattern.compile("^    private static final class (\\w+) \\{").matcher(lines[i]);
+            inside = type.find() ? type.group(1) : lines[i].equals("    }") ? "BroomFlood" : inside;
+            Matcher head = Pattern.compile("^(    |        )(?:[\\w\\[\\]]+ )*(\\w+)\\([^;]*\\) \\{$").matcher(lines[i]);
+            if (head.find() && !head.group(2).matches("if|for|while|switch") && head.group(1).length() == (inside.equals("BroomFlood") ? 4 : 8)) {
+                StringBuilder body = new StringBuilder();
+                int end = i + 1;
+                while (!lines[end].equals(head.group(1) + "}")) {
+                    body.append(lines[end]).append('\n');
+                    end++;
+                }
+                hold(end - i <= 60, "a long method at line " + i);
+                hold(bodies.put(inside + "." + head.group(2), body.toString()) == null, "two methods named " + head.group(2));
+                i = inside.equals("BroomFlood") ? end : i;
             }
-            hold(i - begun <= 60 || !lines[i].contains(";"), "a long method at line " + begun);
         }
+        hold(bodies.size() > 90, "only " + bodies.size() + " methods are found");
+        for (String name : bodies.keySet()) {
+            loops(name, bodies.get(name));
+            hold(isConstructor(name) || !bodies.get(name).matches("(?s).*\\bnew\\b.*"), "an object is made in " + name);
+            String own = name.substring(name.indexOf('.') + 1);
+            hold(!Pattern.compile("(?<![\\w.])" + own + "\\(").matcher(bodies.get(name)).find(), name + " calls itself");
+            int depth = depth(name, bodies, 1);
+            hold(depth <= 8, name + " goes " + depth + " deep");
+        }
+    }
+
+    private static boolean isConstructor(String name) {
+        return name.substring(0, name.indexOf('.')).equals(name.substring(name.indexOf('.') + 1));
+    }
+
+    /** Each loop counts one number up or down by one against a bound. */
+    private static void loops(String name, String body) {
+        hold(!Pattern.compile("\\b(while|do)\\b").matcher(body).find(), "a loop without a counter in " + name);
+        Matcher loop = Pattern.compile("\\bfor \\((.*)\\) \\{").matcher(body);
+        while (loop.find()) {
+            boolean up = loop.group(1).matches("int (\\w+) = [^;]+; \\1 <=? [^;|]+; \\1\\+\\+");
+            boolean down = loop.group(1).matches("int (\\w+) = [^;]+; \\1 >=? [^;|]+; \\1--");
+            hold(up || down, "a loop whose end is not seen in " + name + ": " + loop.group());
+            String counter = loop.group(1).split(" ")[1];
+            String rest = body.substring(loop.end());
+            hold(!Pattern.compile("\\b" + counter + "(\\+\\+|--| [-+*/]?= )").matcher(inLoop(rest)).find(), "a counter is changed in " + name);
+        }
+    }
+
+    private static String inLoop(String rest) {
+        int open = 1;
+        int at = 0;
+        while (open > 0 && at < rest.length()) {
+            open += rest.charAt(at) == '{' ? 1 : rest.charAt(at) == '}' ? -1 : 0;
+            at++;
+        }
+        return rest.substring(0, at);
+    }
+
+    /** By names alone, so rather too deep than not deep enough; a method that calls one of its own name in another class is none. */
+    private static int depth(String name, Map<String, String> bodies, int level) {
+        int deepest = level;
+        if (level > 20) {
+            return level;
+        }
+        Matcher called = Pattern.compile("(new )?\\b(\\w+)\\(").matcher(bodies.get(name));
+        while (called.find()) {
+            for (String other : bodies.keySet()) {
+                boolean made = called.group(1) != null;
+                if (!other.equals(name) && other.endsWith("." + called.group(2)) && made == isConstructor(other)) {
+                    deepest = Math.max(deepest, depth(other, bodies, level + 1));
+                }
+            }
+        }
+        return deepest;
     }
 
     public static void main(String[] args) throws Exception {

@@ -222,8 +222,48 @@ public final class TextSentencesTest {
         s.due("once again in the next text", Sentences.tell(x, "w1;") + Sentences.tell(x, "w2;"), 2);
     }
 
+    /** All orders of the settings, with a BROOM behind each: the order of BROOMS alone matters. */
+    private static void anyOrder(String ahead, String rest, int brooms) {
+        if (rest.isEmpty()) {
+            BroomFlood x = new BroomFlood();
+            s.due("cellar() of <" + ahead + ">", Sentences.tell(x, ahead), 5 + brooms);
+            s.counts(ahead, x, 3, 4, 5, 6, brooms, 0, 0);
+            s.now(ahead, x, 0, 71, 23, 23, (1 << brooms) - 1, 0);
+            for (int b = 0; b < brooms; b++) {
+                s.brooms(ahead, x, b, 10 + b, 20 + b, 30 + b, 0, 0, 0, 1);
+            }
+        }
+        for (int i = 0; i < rest.length(); i++) {
+            char letter = rest.charAt(i);
+            String broom = "b" + (10 + brooms) + " " + (20 + brooms) + " " + (30 + brooms) + ";";
+            int number = letter == 'w' ? 71 : 3 + "adms".indexOf(letter);
+            anyOrder(ahead + letter + number + ";" + broom, rest.replace("" + letter, ""), brooms + 1);
+        }
+    }
+
+    private static void itemsTell() {
+        s.by("ITEMS (none, too), each ended by ; : w N (WATER), a N (AREA), d N (DRAIN), m N (MARK), s N (STAIR; each of "
+            + "these once at most), b S P F (a BROOM).");
+        anyOrder("", "wadms", 0);
+        for (char letter : "wadms".toCharArray()) {
+            BroomFlood x = s.of(letter + "3;");
+            s.now("by " + letter + " alone", x, 0, letter == 'w' ? 3 : 0);
+            s.counts("by " + letter + " alone", x, letter == 'a' ? 3 : 4, letter == 'd' ? 3 : 0, letter == 'm' ? 3 : 10,
+                letter == 's' ? 3 : 8, 0);
+        }
+    }
+
     /** Every letter there is, where an ITEM begins, where its NUMBER is and where its end is. */
     private static void everyLetter() {
+        s.by("TOKENS are the letters w, a, d, m, s, b, NUMBERS and ; .");
+        for (int code = 0; code <= 255; code++) {
+            boolean token = "wadmsb;0123456789".indexOf(code) >= 0;
+            // What is no TOKEN, can't stand behind a whole ITEM nor within one.
+            s.due("behind an ITEM, " + code, Sentences.tell(new BroomFlood(), "w1;" + (char) code + "1"),
+                code == ' ' ? -14 : token && "adms".indexOf(code) >= 0 || code == 'b' ? -15 : -13);
+            s.due("within one, " + code, Sentences.tell(new BroomFlood(), "m1" + (char) code + ";"),
+                code == ' ' || code >= '0' && code <= '9' ? 1 : code == ';' ? -13 : -12);
+        }
         s.by("the place of the first letter of the first TOKEN that can't stand there");
         for (int code = 0; code <= 255; code++) {
             char letter = (char) code;
@@ -364,6 +404,7 @@ public final class TextSentencesTest {
         blanks();
         noItems();
         again();
+        itemsTell();
         everyLetter();
         numbers();
         early();
